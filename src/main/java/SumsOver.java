@@ -425,7 +425,7 @@ public final class SumsOver {
             return least[name] + rest(value - least[name], widths[name]);
         }
 
-        boolean likeSigned(int one, int other) {
+        boolean signedAlike(int one, int other) {
             return signs[one] == signs[other];
         }
 
@@ -460,18 +460,19 @@ public final class SumsOver {
         final int[] targets = new int[MOST_STEPS];
         final int[] as = new int[MOST_STEPS];
         final int[] bs = new int[MOST_STEPS];
+        private final boolean[] bIsName = new boolean[MOST_STEPS];
         final boolean[] meant = new boolean[MOST_STEPS];
         int size;
         final int[] path = new int[MOST_STEPS * MOST_TIMES];
         int pathLength;
 
-        /** What the KIND doesn't need is kept as 0, so that every kept NAME can serve as an index. */
+        /** A TARGET or an a that doesn't matter can be any number: it is kept as 0, to serve as an index. */
         void append(int kind, int target, int a, int b) {
             kinds[size] = kind;
             targets[size] = hasTarget(kind) ? target : 0;
             as[size] = readsA(kind) ? a : 0;
-            bs[size] = kind == COPY || kind == END ? 0 : b;
-            meant[size] = false;
+            bs[size] = b;
+            bIsName[size] = readsB(kind);
             size++;
             retrace();
         }
@@ -509,7 +510,7 @@ public final class SumsOver {
         }
 
         long valueOfB(int step, long[] values) {
-            return readsB(kinds[step]) ? values[bs[step]] : bs[step];
+            return bIsName[step] ? values[bs[step]] : bs[step];
         }
 
         private void retrace() {
@@ -593,7 +594,7 @@ public final class SumsOver {
             long a = steps.valueOfA(step, values);
             long b = steps.valueOfB(step, values);
             long plain = made(kind, a, b);
-            if (kind != BELOW || names.likeSigned(steps.as[step], steps.bs[step])) {
+            if (kind != BELOW || names.signedAlike(steps.as[step], steps.bs[step])) {
                 return plain;
             }
             long byRests = names.belowByRests(steps.as[step], steps.bs[step], a, b);
@@ -620,13 +621,10 @@ public final class SumsOver {
         }
 
         void learn() {
-            if (!known) {
-                goThroughAllRuns();
-                known = true;
+            if (known) {
+                return;
             }
-        }
-
-        private void goThroughAllRuns() {
+            known = true;
             Arrays.fill(over, 0);
             Arrays.fill(shown, NONE);
             Arrays.fill(turned, 0);
@@ -690,13 +688,10 @@ public final class SumsOver {
         }
 
         void learn() {
-            if (!known) {
-                goThroughSteps();
-                known = true;
+            if (known) {
+                return;
             }
-        }
-
-        private void goThroughSteps() {
+            known = true;
             couldBits = 0;
             Arrays.fill(least, 0);
             Arrays.fill(greatest, 0);
@@ -752,7 +747,7 @@ public final class SumsOver {
                     high = Math.max(Math.max(lowA * lowB, lowA * highB), Math.max(highA * lowB, highA * highB));
                     break;
                 case BELOW:
-                    boolean byValue = names.likeSigned(steps.as[step], steps.bs[step]);
+                    boolean byValue = names.signedAlike(steps.as[step], steps.bs[step]);
                     low = byValue && highA < lowB ? 1 : 0;
                     high = byValue && lowA >= highB ? 0 : 1;
                     break;
@@ -779,13 +774,10 @@ public final class SumsOver {
         }
 
         void learn() {
-            if (!known) {
-                goThroughAllRuns();
-                known = true;
+            if (known) {
+                return;
             }
-        }
-
-        private void goThroughAllRuns() {
+            known = true;
             tooFar = false;
             Arrays.fill(least, 0);
             Arrays.fill(greatest, 0);

@@ -249,6 +249,26 @@ public final class PromisesTest {
         due("5: two go", s.back() && s.back(), true);
         due("5: none is left", s.back(), false);
         due("5: none", s.count(0), 0);
+        backForgets();
+    }
+
+    private static void backForgets() {
+        SumsOver s = with(0, 9, 0, 0);
+        s.name(2, 4, true);
+        s.step(COPY, 2, 0, 0);
+        s.step(SHIFT, 2, 0, 1);
+        due("5: over with it", s.count(2), 6);
+        due("5: need with it", s.need(2), 6);
+        dueEnds("5: ends with it", s, 2, -8, 7);
+        s.back();
+        due("5: over without it", s.count(2), 2);
+        due("5: need without it", s.need(2), 5);
+        s.back();
+        due("5: over without both", s.count(2), 0);
+        due("5: need without both", s.need(2), 2);
+        dueEnds("5: ends without both", s, 2, 0, 0);
+        s.step(COPY, 3, 0, 0);
+        due("5: what could go over before can't now", s.judge(0), 0);
     }
 
     private static void mode() {
@@ -497,11 +517,39 @@ public final class PromisesTest {
         t.step(SET, 2, 0, 255);
         due("12: 255 isn't below 255, but at some time it turned", t.turned(1), 1);
         due("12: by the greater width", t.run(-1, 0, 3), 0);
+        turnedByBothWidths();
+        turnedTogether();
         t.name(2, 9, false);
         due("12: by 512 it is 511", t.turned(1), 1);
         t.name(0, 31, true);
         t.name(2, 31, false);
         due("12: by 31 bits", t.turned(1), 1);
+    }
+
+    private static void turnedByBothWidths() {
+        SumsOver s = with(-1, -1, 31, 31);
+        s.name(0, 4, true);
+        s.name(1, 8, false);
+        s.step(BELOW, 2, 1, 0);
+        due("12: 31 is below 255, not 15 below 15", s.run(-1, 31, 2), 1);
+        s.span(0, 20, 20);
+        s.span(1, 5, 5);
+        s.name(0, 8, true);
+        s.name(1, 4, false);
+        s.step(BELOW, 2, 0, 1);
+        due("12: 20 isn't below 5, nor is it taken as 4", s.run(20, 5, 2), 0);
+    }
+
+    private static void turnedTogether() {
+        SumsOver s = with(-1, 0, 5, 5);
+        s.name(1, 16, false);
+        s.step(BELOW, 2, 0, 1);
+        due("12: the first step alone", s.turned(0), 1);
+        s.step(BELOW, 3, 1, 0);
+        due("12: the first of two in one run", s.turned(0), 1);
+        due("12: the second of two in one run", s.turned(1), 1);
+        s.name(1, 16, true);
+        due("12: none now", s.turned(0), 0);
     }
 
     private static void endsOfInputs() {
@@ -561,6 +609,11 @@ public final class PromisesTest {
         SumsOver negative = with(-9, -2, -7, -3);
         negative.step(TIMES, 2, 0, 1);
         dueEnds("13: times below 0", negative, 2, 6, 63);
+        SumsOver mixed = with(-9, -2, 3, 7);
+        mixed.step(TIMES, 2, 0, 1);
+        dueEnds("13: times of one below 0", mixed, 2, -63, -6);
+        mixed.step(TIMES, 2, 1, 0);
+        dueEnds("13: the same the other way", mixed, 2, -63, -6);
     }
 
     private static void endsOfBelow() {
@@ -624,6 +677,14 @@ public final class PromisesTest {
         below.span(0, -1, -1);
         due("14: though the run turns it", below.run(-1, 0, 3), 0);
         due("14: so it needs them", below.need(3), 6);
+        SumsOver fresh = with(-31, 0, 0, 3);
+        fresh.step(ADD, 2, 2, 0);
+        fresh.step(ADD, 2, 2, 1);
+        due("14: each run begins with 0", fresh.need(2), 6);
+        fresh.span(0, 0, 0);
+        due("14: a narrower span needs less", fresh.need(2), 3);
+        fresh.span(1, -4, -3);
+        due("14: and so does one below 0", fresh.need(2), 3);
     }
 
     /** NAME 2 gets 2 to the power of 40 (or minus that), and that much more. */

@@ -513,19 +513,18 @@ public final class SumsOver {
             return bIsName[step] ? values[bs[step]] : bs[step];
         }
 
+        /** A STEP within a LOOP is traced with its LOOP, and so passed over when its own turn comes. */
         private void retrace() {
             pathLength = 0;
-            int s = 0;
-            while (s < size) {
+            int loopEnd = -1;
+            for (int s = 0; s < size; s++) {
                 if (kinds[s] == LOOP) {
-                    int end = endOf(s);
+                    loopEnd = endOf(s);
                     for (int time = 0; time < bs[s]; time++) {
-                        trace(s + 1, end);
+                        trace(s + 1, loopEnd);
                     }
-                    s = end + 1;
-                } else {
+                } else if (s > loopEnd) {
                     trace(s, s + 1);
-                    s++;
                 }
             }
         }

@@ -1,6 +1,9 @@
 /** Counts the answers that are not as due, and prints each of them. */
 final class Check {
     private final String title;
+    private String heading = "";
+    private String sentence = "";
+    private int sentences;
     private int wrong;
     private int asked;
 
@@ -8,11 +11,26 @@ final class Check {
         this.title = title;
     }
 
+    /** What follows is of this heading of the document. */
+    void of(String newHeading) {
+        heading = newHeading;
+    }
+
+    /** One sentence of the document, and the test that fails if it is broken. */
+    void holds(String words, Runnable test) {
+        int before = asked;
+        sentence = heading + ", \"" + words + "\": ";
+        test.run();
+        due("a test that asks nothing", asked > before, true);
+        sentence = "";
+        sentences++;
+    }
+
     void due(String what, long got, long want) {
         asked++;
         if (got != want) {
             wrong++;
-            System.out.println(title + ": " + what + " answered " + got + ", due is " + want);
+            System.out.println(title + ": " + sentence + what + " answered " + got + ", due is " + want);
         }
     }
 
@@ -25,7 +43,8 @@ final class Check {
     }
 
     void end() {
-        System.out.println(title + ": " + asked + " answers, " + wrong + " not as due");
+        String of = sentences == 0 ? "" : " to " + sentences + " sentences";
+        System.out.println(title + ": " + asked + " answers" + of + ", " + wrong + " not as due");
         if (wrong != 0) {
             System.exit(1);
         }

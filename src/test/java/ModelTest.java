@@ -3,7 +3,7 @@ import java.util.Random;
 /** Many runs of calls, made by fixed seeds, on the class and on the model side by side. */
 public final class ModelTest {
     private static final int OBJECTS = 200;
-    private static final int CALLS = 300;
+    private static final int CALLS = 280;
 
     private final Check check = new Check("ModelTest");
     private Random random;

@@ -57,6 +57,7 @@ abstract class Edges {
         due(what + ", then a LOOP", s.step(LOOP, 0, 0, 2), twin.step(LOOP, 0, 0, 2));
         due(what + ", then a SET", s.step(SET, 2, 0, 1), twin.step(SET, 2, 0, 1));
         due(what + ", then NAME 2", s.run(-3, 10, 2), twin.run(-3, 10, 2));
+        due(what + ", then marks", s.count(3), twin.count(3));
     }
 
     /** Likewise, in all Scenes where nothing but the call's own numbers can be the ground. */

@@ -189,10 +189,12 @@ public final class EdgesOfPromises7To13Test extends Edges {
         due("by MODE 1, too", s.first(8, 0), 0);
         SumsOver loop = oneRun(1, 0);
         loop.name(2, 2, true);
-        loop.step(LOOP, 0, 0, 3);
+        loop.name(3, 2, true);
+        loop.step(LOOP, 0, 0, 2);
         loop.step(ADD, 2, 2, 0);
-        loop.step(SHIFT, 2, 0, 1);
-        due("the first in time, in a LOOP", loop.first(1, 0), 2);
+        loop.step(SHIFT, 3, 0, 1);
+        due("STEP 1 goes over at the second time", loop.over(1), 1);
+        due("STEP 2 at the first", loop.first(1, 0), 2);
     }
 
     private void promise8NoneDoes() {

@@ -6,7 +6,9 @@ import java.lang.reflect.Method;
 import java.lang.reflect.Modifier;
 import java.nio.file.Files;
 import java.nio.file.Path;
+import java.util.ArrayList;
 import java.util.Arrays;
+import java.util.List;
 import java.util.Set;
 import java.util.TreeSet;
 import java.util.regex.Pattern;
@@ -32,8 +34,10 @@ public final class FaceTest {
         100001, Integer.MAX_VALUE - 1, Integer.MAX_VALUE,
     };
 
-    public static void main(String[] args) throws IOException {
+    public static void main(String[] args) throws ReflectiveOperationException, IOException {
         face();
+        none();
+        sizes();
         privateNames();
         source();
         anyArguments(new SumsOver());
@@ -57,11 +61,41 @@ public final class FaceTest {
             }
         }
         CHECK.due("methods as told: " + seen, seen.equals(new TreeSet<>(Arrays.asList(FACE))), true);
+        CHECK.due("constructors", c.getDeclaredConstructors().length, 1);
         for (Constructor<?> k : c.getDeclaredConstructors()) {
-            CHECK.due(k + " is the one constructor", k.getParameterCount() == 0 && !hidden(k), true);
+            CHECK.due(k + " takes nothing", k.getParameterCount(), 0);
+            CHECK.due(k + " is public and no more", k.getModifiers(), Modifier.PUBLIC);
         }
         for (Field f : c.getDeclaredFields()) {
-            CHECK.due(f + " is hidden", hidden(f) || f.getName().equals("NONE"), true);
+            CHECK.due(f + " is hidden", hidden(f), !f.getName().equals("NONE"));
+        }
+    }
+
+    private static void none() throws ReflectiveOperationException {
+        Field none = SumsOver.class.getDeclaredField("NONE");
+        CHECK.due("NONE is an int", none.getType() == int.class, true);
+        CHECK.due("NONE is a constant", none.getModifiers(), Modifier.PUBLIC | Modifier.STATIC | Modifier.FINAL);
+        CHECK.due("NONE", none.getInt(null), -1);
+    }
+
+    /** Rules 2, 5 and 11, as far as a class shows them once it is compiled. */
+    private static void sizes() {
+        List<Class<?>> all = new ArrayList<>(List.of(SumsOver.class.getDeclaredClasses()));
+        all.add(SumsOver.class);
+        CHECK.due("some twelve classes", all.size() <= 12, true);
+        for (Class<?> c : all) {
+            int fields = 0;
+            for (Field f : c.getDeclaredFields()) {
+                boolean isStatic = Modifier.isStatic(f.getModifiers());
+                CHECK.due(f + " is final if static", isStatic && !Modifier.isFinal(f.getModifiers()), false);
+                fields += isStatic ? 0 : 1;
+            }
+            CHECK.due(c + " has some twenty fields", fields <= 20, true);
+            CHECK.due(c + " has no class within a class within it", c.getDeclaredClasses().length > 0,
+                c == SumsOver.class);
+            for (Method m : c.getDeclaredMethods()) {
+                CHECK.due(m + " takes at most seven", m.getParameterCount() <= 7, true);
+            }
         }
     }
 
